@@ -50,7 +50,8 @@ public final class SunriseRoof {
     private static final int IF_TEST = 2;
     private static final int PIECES = 3;
 
-    private static final long BROKEN = Long.MIN_VALUE;
+    // No SUM that is not BROKEN comes near it.
+    private static final long BROKEN = -1_000_000_000_000L;
     private static final long SUM_LIMIT = 1_000_000_000L;
     private static final long CERTAIN = 1_000_000_000_000L;
     private static final int PLAN_TICKS = 200;
@@ -675,7 +676,8 @@ public final class SunriseRoof {
 
     /** A read TEXT: its clauses, each with up to two SUMS and a TEST, as code for a stack. */
     private static final class Text {
-        static final int STACK_ROOM = 64;
+        // Each of nine levels of brackets leaves two values waiting at most, a comparison one.
+        static final int STACK_ROOM = 32;
         private static final int ARGUMENT_BITS = 12;
         private static final int ARGUMENT_MASK = 4095;
 
