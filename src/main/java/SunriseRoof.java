@@ -1447,12 +1447,29 @@ public final class SunriseRoof {
                     rows[from] = t;
                     return t;
                 }
-                if (t < limit && canTick()) {
-                    sendFree(set);
-                    paper.workOneTick();
+                if (t == limit || !canTick()) {
+                    return NONE;
                 }
+                sendFree(set);
+                if (isStuck()) {
+                    return NONE;
+                }
+                paper.workOneTick();
             }
             return NONE;
+        }
+
+        /** Whether no tick changes anything more: without a LAW nobody asks for the hour or who is tired. */
+        private boolean isStuck() {
+            if (paper.inForce != NONE) {
+                return false;
+            }
+            for (int b = 0; b < paper.builders && b < BUILDER_ROOM; b++) {
+                if (paper.place[b] != NONE) {
+                    return false;
+                }
+            }
+            return true;
         }
 
         boolean canTick() {
@@ -1477,15 +1494,16 @@ public final class SunriseRoof {
         }
 
         void sendFree(int set) {
-            int ready = paper.readyMask();
-            if (ready == 0) {
-                return;
-            }
-            paper.reckonChains();
             int[] chain = paper.slate.chain;
+            int ready = NONE;
             for (int b = 0; b < paper.builders && b < BUILDER_ROOM; b++) {
                 if ((set >> b & 1) == 0 || paper.place[b] != NONE) {
                     continue;
+                }
+                if (ready == NONE) {
+                    // Sending changes neither, so the first who is free reckons for all.
+                    ready = paper.readyMask();
+                    paper.reckonChains();
                 }
                 int best = NONE;
                 for (int p = 0; p < paper.parts && p < PART_ROOM; p++) {
