@@ -627,6 +627,7 @@ public final class SunriseRoof {
             return (crafts[b] >> craft[p] & 1) == 1;
         }
 
+        /** Writes the words' values in the order in which Reader.WORDS has a LAW's words. */
         private void writeWords(int b, int p) {
             int others = 0;
             for (int other = 0; other < builders && other < BUILDER_ROOM; other++) {
