@@ -200,6 +200,16 @@ public final class DeedsTest {
         Check.due("back()", x.undo(), -3);
     }
 
+    private static void firstOnes() {
+        SunriseRoof x = new SunriseRoof();
+        x.tick();
+        Check.due("part 0", x.part(1, 0, 0, 0), 0);
+        Check.due("nothing ahead of it can be undone", x.undo(), -3);
+        x.tick();
+        Check.due("builder 0", x.builder(1, 1), 0);
+        Check.due("nothing ahead of it can be undone", x.undo(), -3);
+    }
+
     public static void main(String[] args) {
         send();
         rest();
@@ -208,6 +218,7 @@ public final class DeedsTest {
         throwDown();
         undo();
         undoRoom();
+        firstOnes();
         Check.finish("DeedsTest");
     }
 }

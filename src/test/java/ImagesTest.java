@@ -25,6 +25,8 @@ public final class ImagesTest {
         Check.law(x, "works 7");
         x.force(1);
         x.forget();
+        x.sight(88, 1, 0);
+        x.sight(88, 1, 0);
         x.terms(0, 77);
         x.terms(3, 5);
         Check.due("back", x.back(0), 0);
@@ -38,6 +40,10 @@ public final class ImagesTest {
         Check.due("tired", x.at(0, 2), 1);
         Check.due("works by the law", x.asks(0, 0, 0), 4);
         Check.due("the sight", x.whose(-1) * 10 + x.whose(0), 11);
+        x.sight(2, 0, 1);
+        Check.due("2 ticks are enough of what is left", x.whose(-1), 1);
+        x.sight(1, 0, 0);
+        Check.due("1 is not", x.whose(-1), 1);
         Check.due("nothing can be undone", x.undo(), -3);
         Check.due("back to the empty one", x.back(1), 0);
         Check.due("no parts", x.count(0), 0);

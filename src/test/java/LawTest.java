@@ -92,6 +92,9 @@ public final class LawTest {
         so("(1=1 or 1=1) and 1=2", 0);
         so("not 1=2 and 1=2", 0);
         so("not (1=2 and 1=2)", 1);
+        so("not (not 1=1)", 1);
+        so("not 1=1 and 1=1", 0);
+        so("not 1=1 or 1=2", 0);
         so("1=1 or 1/0=1", 1);
         so("1/0=1 or 1=1", 0);
         so("not 1/0=1", 0);
@@ -167,6 +170,13 @@ public final class LawTest {
         Check.fault(false, "works 1 2", 8);
         Check.fault(false, "works 1001", 6);
         Check.fault(false, "works 99999999999999999999", 6);
+        Check.fault(false, "works 10000", 6);
+        Check.fault(false, "works 1000000", 6);
+        Check.fault(false, "works send", 6);
+        Check.fault(false, "builder 1", 0);
+        Check.fault(false, "barsz", 0);
+        Check.fault(false, "bars z", 5);
+        Check.fault(false, "barsa", 0);
         Check.fault(false, "works 1+", 8);
         Check.fault(false, "works +1", 6);
         Check.fault(false, "works (1)", 6);

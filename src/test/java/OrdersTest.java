@@ -24,6 +24,8 @@ public final class OrdersTest {
         Check.due("tick", x.undo(), 3);
         Check.due("send", x.undo(), 0);
         Check.due("as it was", x.count(13) + x.of(0, 4), 5);
+        Check.due("eight brackets", Check.orders(x, "send [[[[[[[[0]]]]]]]] to [[[[[[[[0]]]]]]]]"), 1);
+        Check.due("undone", x.undo(), 0);
         Check.due("20 times", Check.orders(x, "tick times 20"), 20);
         Check.due("16 kept", x.count(5), 16);
         Check.due("none is run", Check.orders(x, "tick times 5 if 1=2"), 0);
@@ -42,6 +44,8 @@ public final class OrdersTest {
         Check.due("words", Check.orders(x, "tick if left 0=0 and left 1=4 and left 9=0-1 and tired 0=2 and tired 5=0-1 and at 0=1 and at 1=0-1 and at 5=0-1"), 1);
         Check.due("sums", Check.orders(x, "rest at 0-1;send left 0 to standing"), 2);
         Check.due("done is of this text alone", Check.orders(x, "tick if done>0"), 0);
+        x.terms(0, 77);
+        Check.due("hour", Check.orders(x, "tick if hour=77 and done=0;tick if hour=78 and done=1"), 2);
     }
 
     private static void stops() {
@@ -111,6 +115,9 @@ public final class OrdersTest {
         Check.fault(true, "rest pace", 5);
         Check.fault(true, "rest mood", 5);
         Check.fault(true, "rest 1001", 5);
+        Check.fault(true, "to 1", 0);
+        Check.fault(true, "rest [[[[[[[[[1]]]]]]]]]", 13);
+        Check.fault(true, "send 1 to [[[[[[[[[1]]]]]]]]]", 18);
         Check.fault(true, Check.times("tick;", 12) + " tick", 61);
         Check.fault(true, "rest " + Check.times("1+", 50) + "1", 105);
         Check.fault(true, "rest " + Check.times("left 1+", 50) + "left 1", 355);

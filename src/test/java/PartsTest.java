@@ -82,6 +82,11 @@ public final class PartsTest {
         x.send(0, 1);
         x.tick();
         Check.due("the chain as it is left", x.of(1, 6), 10);
+        Check.due("rows are as of now", x.part(1, 0, 0, 0) * 100 + x.rows(-1, 0), 408);
+        x.terms(0, 500);
+        x.send(0, 4);
+        x.tick();
+        x.send(0, 1);
         Check.due("the longest as it is left", x.longest(), 10);
         Check.due("rows of what does not stand", x.rows(-1, 99), 2);
         Check.due("row 0", x.rows(0, 0) * 100 + x.rows(0, 1) * 10 + x.rows(0, 2), 123);

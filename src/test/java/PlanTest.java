@@ -28,6 +28,33 @@ public final class PlanTest {
         Check.due("it was not moved", x.at(0, 3), -1);
     }
 
+    private static void asOfNow() {
+        SunriseRoof x = new SunriseRoof();
+        x.part(8, 0, 0, 0);
+        x.part(4, 1, 0, 0);
+        x.builder(1, 2);
+        Check.due("plan", x.plan(-1), 6);
+        Check.due("taught", x.taught(0), -1);
+        Check.due("hands", x.hands(1), 1);
+        Check.due("rows", x.rows(0, 0), 0);
+        x.send(0, 0);
+        Check.due("nothing came to stand", x.tick(), 0);
+        Check.due("plan behind a tick", x.plan(-1), 5);
+        x.undo();
+        Check.due("plan behind undo", x.plan(-1), 6);
+        Check.orders(x, "tick times 4");
+        Check.due("plan behind orders", x.plan(-1), 2);
+        Check.due("rows behind orders", x.rows(0, 0), 1);
+        x.throwDown(0);
+        Check.due("plan behind throwDown", x.plan(-1), 6);
+        x.builder(1, 6);
+        Check.due("plan behind builder", x.plan(-1), 2);
+        Check.rule(x, "works 1");
+        Check.due("plan behind force", x.plan(-1), 6);
+        x.terms(0, 999);
+        Check.due("plan behind terms", x.plan(-1), -1);
+    }
+
     private static void ties() {
         SunriseRoof x = new SunriseRoof();
         x.part(5, 0, 0, 0);
@@ -176,6 +203,7 @@ public final class PlanTest {
 
     public static void main(String[] args) {
         plain();
+        asOfNow();
         ties();
         limits();
         tired();

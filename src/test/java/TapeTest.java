@@ -9,6 +9,7 @@ public final class TapeTest {
         Check.due("it stays", x.count(6), 400);
         Check.due("end(401)", x.end(401), -1);
         Check.due("end(-1)", x.end(-1), -1);
+        Check.due("end(400)", x.end(400), 400);
         Check.due("end(381)", x.end(381), 381);
         Check.due("401 would be more", x.feed(1, 1, 1, 1, 1), -1);
         Check.due("end(380)", x.end(380), 380);
@@ -50,6 +51,10 @@ public final class TapeTest {
         Check.due("no room at all", x.row(), 0);
         Check.due("it is not REFUSED", x.status(), 0);
         Check.due("chaff", x.chaff(), 1);
+        SunriseRoof y = new SunriseRoof();
+        Check.feed(y, new byte[] {1, 0, 0, 0});
+        Check.due("a part and no more", y.row(), 1);
+        Check.due("no chaff", y.chaff(), 0);
         Check.feed(x, new byte[] {1});
         Check.due("a part that ends", x.row(), 0);
         Check.due("chaff", x.chaff(), 1);
