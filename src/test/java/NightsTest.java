@@ -102,6 +102,7 @@ public final class NightsTest {
         x.part(9, 0, 0, 0);
         x.builder(1, 1);
         Check.due("ahead of any", x.drawn(0, 0), -1);
+        Check.due("ahead of any", x.drawn(0, 1), -1);
         x.image(0);
         x.terms(2, 0);
         x.terms(1, 2);

@@ -169,6 +169,39 @@ public final class PlanTest {
         Check.due("none helps", z.taught(2), -1);
         z.builder(2, 9);
         Check.due("no sooner than one tick", z.taught(0), -1);
+        z.part(10, 0, 2, 0);
+        // By 0 alone three ticks; two if 1 has craft 0 or craft 2.
+        Check.due("asked anew behind a part", z.taught(0), 1);
+        Check.due("the lowest craft", z.taught(1), 0);
+        Check.due("ticks", z.taught(2), 2);
+    }
+
+    /** What a lesson on paper must not leave behind. */
+    private static void afterLessons() {
+        SunriseRoof x = new SunriseRoof();
+        x.part(6, 0, 3, 0);
+        x.builder(7, 3);
+        Check.due("craft 3", x.taught(1), 3);
+        Check.due("unseen, as nobody can", x.unseen(9), 1000000000000L);
+        x.terms(2, 0);
+        Check.due("not in a night", x.nights(0, 1), 0);
+        Check.due("no plan", x.plan(-1), -1);
+        Check.due("no hands", x.hands(0), -1);
+    }
+
+    /** A lesson that gains one tick alone, then one that gains one more. */
+    private static void smallGains() {
+        SunriseRoof x = new SunriseRoof();
+        x.part(30, 0, 0, 0);
+        x.builder(1, 5);
+        x.builder(2, 1);
+        x.builder(2, 2);
+        Check.due("ticks without", x.plan(-1), 6);
+        Check.due("to 1 it is five, as it is to 2", x.taught(0), 1);
+        Check.due("ticks", x.taught(2), 5);
+        x.builder(2, 3);
+        Check.due("to 3 it is four", x.taught(0), 3);
+        Check.due("ticks", x.taught(2), 4);
     }
 
     private static void unseen() {
@@ -209,6 +242,8 @@ public final class PlanTest {
         tired();
         hands();
         taught();
+        afterLessons();
+        smallGains();
         unseen();
         Check.finish("PlanTest");
     }

@@ -82,14 +82,45 @@ public final class SightsTest {
         x.builder(1, 1);
         Check.due("behind 40", x.look(0), 40);
         Check.due("one is left", x.look(1), 1);
-        x.terms(1, 99);
-        x.part(1, 1, 0, 0);
-        x.builder(2, 1);
         SunriseRoof y = new SunriseRoof();
         y.part(41, 0, 0, 0);
         y.builder(1, 1);
         Check.due("behind 41 nobody looks", y.look(0), 0);
         Check.due("both are left", y.look(1), 2);
+    }
+
+    private static void lateSights() {
+        SunriseRoof x = new SunriseRoof();
+        x.part(60, 0, 0, 0);
+        x.part(5, 1, 0, 0);
+        x.part(7, 0, 0, 0);
+        x.builder(1, 1);
+        Check.due("looked at ahead", x.look(1), 2);
+        // 0 behind 60, then 2 (chain 7) behind 67, then 1 behind 72.
+        x.sight(72, 1, 1);
+        Check.due("1 behind 72", x.whose(-1) * 10 + x.whose(0), 11);
+        x.sight(71, 1, 0);
+        x.sight(67, 2, 1);
+        x.sight(66, 2, 0);
+        x.sight(60, 0, 1);
+        x.sight(59, 0, 0);
+        Check.due("all are so", x.whose(-1) * 10 + x.whose(0), 11);
+        x.sight(66, 1, 1);
+        Check.due("none", x.whose(-1), 0);
+    }
+
+    private static void allStanding() {
+        SunriseRoof x = new SunriseRoof();
+        for (int p = 0; p < 10; p++) {
+            x.part(1, 0, 0, 0);
+        }
+        x.builder(1, 1);
+        Check.due("one has one standing behind 1", x.look(0), 1);
+        Check.orders(x, "send 0 to standing;tick;send 0 to standing;tick;send 0 to standing;tick;send 0 to standing;tick;send 0 to standing;tick");
+        Check.orders(x, "send 0 to standing;tick;send 0 to standing;tick;send 0 to standing;tick;send 0 to standing;tick;send 0 to standing;tick");
+        Check.due("all stand", x.count(1), 10);
+        Check.due("nothing more to see", x.look(0), 0);
+        Check.due("both are left", x.look(1), 2);
     }
 
     private static void asItIsNow() {
@@ -111,6 +142,8 @@ public final class SightsTest {
         whose();
         look();
         lateLook();
+        lateSights();
+        allStanding();
         asItIsNow();
         Check.finish("SightsTest");
     }
