@@ -1,4 +1,5 @@
 import java.nio.charset.StandardCharsets;
+import java.util.function.IntSupplier;
 
 /** What the tests share: answers that are due, and texts fed to the tape. */
 final class Check {
@@ -65,6 +66,67 @@ final class Check {
         SunriseRoof x = new SunriseRoof();
         due("reading '" + text + "'", isOrders ? orders(x, text) : law(x, text), -6);
         due("FAULT of '" + text + "'", x.fault(), place);
+    }
+
+    /** A TEXT that can be: it is read without a FAULT, whether or not it can be run. */
+    static void reads(boolean isOrders, String text) {
+        SunriseRoof x = new SunriseRoof();
+        int told = isOrders ? orders(x, text) : law(x, text);
+        due("reading '" + text + "'", told == -6 ? 0 : 1, 1);
+        due("FAULT of '" + text + "'", x.fault(), -1);
+    }
+
+    /** All that a call which is REFUSED must leave as it was, but for the tape and how many were REFUSED. */
+    static String view(SunriseRoof x) {
+        StringBuilder seen = new StringBuilder();
+        int[] counts = {0, 1, 2, 3, 4, 5, 12, 13, 14, 15, 16};
+        for (int what : counts) {
+            seen.append(x.count(what)).append(' ');
+        }
+        for (int p = 0; p < x.count(0); p++) {
+            seen.append('p').append(x.of(p, 4)).append(' ').append(x.drawn(p, 0)).append(' ');
+        }
+        for (int b = 0; b < x.count(2); b++) {
+            seen.append('b').append(x.at(b, 2)).append(' ').append(x.at(b, 3)).append(' ').append(x.drawn(b, 1)).append(' ');
+        }
+        return seen.append('c').append(x.chaff()).append(' ').append(x.whose(-1)).toString();
+    }
+
+    /** A call is REFUSED by a number: it answers that, is counted there alone, and all is as it was. */
+    static void refused(String call, SunriseRoof x, int by, IntSupplier made) {
+        int[] order = {-1, -2, -3, -5, -6};
+        int[] counted = new int[5];
+        for (int i = 0; i < 5; i++) {
+            counted[i] = x.count(7 + i);
+        }
+        String seen = view(x);
+        due(call, made.getAsInt(), by);
+        due("status behind " + call, x.status(), by);
+        for (int i = 0; i < 5; i++) {
+            due("REFUSED by " + order[i] + " behind " + call, x.count(7 + i) - counted[i], order[i] == by ? 1 : 0);
+        }
+        due("all is as it was behind " + call, view(x).equals(seen) ? 1 : 0, 1);
+    }
+
+    /** A call is not REFUSED: it answers, the status is 0, and it is counted nowhere. */
+    static void agreed(String call, SunriseRoof x, int answer, IntSupplier made) {
+        int counted = refusals(x);
+        due(call, made.getAsInt(), answer);
+        due("status behind " + call, x.status(), 0);
+        due("REFUSED behind " + call, refusals(x) - counted, 0);
+    }
+
+    static int refusals(SunriseRoof x) {
+        return x.count(7) + x.count(8) + x.count(9) + x.count(10) + x.count(11);
+    }
+
+    static void fill(SunriseRoof x, int parts, int builders) {
+        for (int p = 0; p < parts; p++) {
+            x.part(1, 0, 0, 0);
+        }
+        for (int b = 0; b < builders; b++) {
+            x.builder(1, 1);
+        }
     }
 
     static String times(String text, int n) {
