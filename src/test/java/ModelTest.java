@@ -21,6 +21,8 @@ public final class ModelTest {
     private final List<String> log = new ArrayList<>();
     private int partsMeant;
     private int buildersMeant;
+    /** Numbers are mostly the least and the most that can be, or next to these. */
+    private boolean atEdges = false;
     private boolean wrong = false;
     private int calls = 0;
 
@@ -57,6 +59,13 @@ public final class ModelTest {
 
     private int odd(int bound) {
         return random.nextInt(12) == 0 ? ODD[random.nextInt(ODD.length)] : random.nextInt(Math.max(1, bound));
+    }
+
+    /** The least, the most, one beside these, or one between. */
+    private int edge(int least, int most) {
+        int[] edges = {least, most, least, most, least + 1, most - 1, least - 1, most + 1};
+        int kind = random.nextInt(12);
+        return kind < edges.length ? edges[kind] : least + random.nextInt(most - least + 1);
     }
 
     private String blank() {
@@ -111,7 +120,38 @@ public final class ModelTest {
         return text;
     }
 
+    /** A SUM of about as many operands or brackets as there may be. */
+    private String longSum(boolean orders) {
+        if (random.nextBoolean()) {
+            int deep = 7 + random.nextInt(3);
+            return Check.times("[", deep) + sum(orders, 0) + Check.times("]", deep);
+        }
+        StringBuilder all = new StringBuilder(operand(orders, 0));
+        int more = 47 + random.nextInt(4);
+        for (int i = 0; i < more; i++) {
+            all.append("+-*/%".charAt(random.nextInt(5))).append(random.nextInt(4) == 0 ? operand(orders, 0) : Integer.toString(random.nextInt(10)));
+        }
+        return all.toString();
+    }
+
+    private String edgeText(boolean orders) {
+        String sum = longSum(orders);
+        switch (random.nextInt(4)) {
+            case 0: return (orders ? "rest " : "works ") + sum;
+            case 1: return (orders ? "tick times " + edge(1, 20) + " if " : "bars if ") + sum + "<" + random.nextInt(9);
+            case 2: {
+                int deep = random.nextInt(3);
+                return (orders ? "tick if " : "shows 3 if ") + Check.times("(", deep) + "hour>" + sum + Check.times(")", deep);
+            }
+            default: {
+                String head = orders ? "tick times 20" : "tires 0";
+                return Check.times(head + ";", 10 + random.nextInt(3)) + head;
+            }
+        }
+    }
+
     private String text(boolean orders) {
+        if (atEdges && random.nextInt(3) == 0) return edgeText(orders);
         int clauses = random.nextInt(30) == 0 ? 11 + random.nextInt(4) : 1 + random.nextInt(orders ? 5 : 7);
         StringBuilder all = new StringBuilder();
         for (int i = 0; i < clauses; i++) {
@@ -189,7 +229,28 @@ public final class ModelTest {
         }
     }
 
+    private void edgeStep() {
+        int parts = (int) roof.count(0);
+        switch (random.nextInt(14)) {
+            case 0: call("part", edge(1, 99), random.nextBoolean() ? edge(0, (1 << parts) - 1) : 0, edge(0, 3), edge(0, 9)); break;
+            case 1: call("builder", edge(1, 15), edge(1, 9)); break;
+            case 2: call("terms", 0, random.nextInt(3) == 0 ? edge(0, 999) : edge(990, 999)); break;
+            case 3: call("terms", 1, edge(1, 99)); break;
+            case 4: call("terms", 2, edge(0, 10)); break;
+            case 5: call("terms", 3, edge(0, 9)); break;
+            case 6: call("terms", edge(0, 3), edge(0, 9)); break;
+            case 7: call("sight", edge(0, 99), edge(0, Math.max(1, parts - 1)), edge(0, 1)); break;
+            case 8: call("nights", edge(0, 1000000), edge(1, random.nextInt(4) == 0 ? 20 : 2)); break;
+            case 9: call("unseen", edge(0, 99)); break;
+            case 10: call("image", edge(0, 1)); break;
+            case 11: call("back", edge(0, 1)); break;
+            case 12: call("end", edge(0, (int) roof.count(6))); break;
+            default: call("asks", edge(0, 5), edge(0, 9), edge(0, 3));
+        }
+    }
+
     private void step() {
+        if (atEdges && random.nextInt(3) == 0) edgeStep();
         int parts = (int) roof.count(0);
         int builders = (int) roof.count(2);
         switch (random.nextInt(24)) {
@@ -216,8 +277,9 @@ public final class ModelTest {
         call("status");
     }
 
-    private boolean run(int parts, int builders, int steps) {
+    private boolean run(int parts, int builders, int steps, boolean edges) {
         partsMeant = parts;
+        atEdges = edges;
         buildersMeant = builders;
         for (int i = 0; i < parts && random.nextInt(8) > 0; i++) {
             call("part", 1 + random.nextInt(12), random.nextInt(1 << i) & random.nextInt(1 << i), random.nextInt(4), random.nextInt(10));
@@ -239,7 +301,7 @@ public final class ModelTest {
             Random sizes = new Random(seed * 7919L);
             ModelTest test = new ModelTest(seed);
             boolean big = seed % 40 == 0;
-            if (!test.run(big ? 10 : sizes.nextInt(7), big ? 5 : sizes.nextInt(4), big ? 40 : 100)) {
+            if (!test.run(big ? 10 : sizes.nextInt(7), big ? 5 : sizes.nextInt(4), big ? 40 : 100, seed % 3 == 0)) {
                 System.out.println("seed " + seed);
                 System.exit(1);
             }

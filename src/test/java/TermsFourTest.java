@@ -275,6 +275,34 @@ public final class TermsFourTest {
         Check.due("nothing is in 1", x.count(0), 0);
     }
 
+    /** Each number of a PART and of a BUILDER is kept, where others came to be in their stead. */
+    private static void imagesKeepNumbers() {
+        SunriseRoof x = new SunriseRoof();
+        x.image(0);
+        x.part(5, 0, 1, 2);
+        x.part(7, 1, 3, 4);
+        x.builder(3, 6);
+        x.image(1);
+        x.back(0);
+        x.part(50, 0, 2, 9);
+        x.part(70, 0, 0, 8);
+        x.builder(12, 1);
+        x.image(0);
+        int[][] first = {{50, 0, 2, 9, 50}, {70, 0, 0, 8, 70}};
+        int[][] second = {{5, 0, 1, 2, 5}, {7, 1, 3, 4, 7}};
+        for (int round = 0; round < 2; round++) {
+            for (int k = 0; k < 2; k++) {
+                x.back(k);
+                for (int p = 0; p < 2; p++) {
+                    for (int what = 0; what < 5; what++) {
+                        Check.due("of(" + p + ", " + what + ")", x.of(p, what), (k == 0 ? first : second)[p][what]);
+                    }
+                }
+                Check.due("CRAFTS and PACE", x.at(0, 0) * 10 + x.at(0, 1), k == 0 ? 121 : 36);
+            }
+        }
+    }
+
     /** A view in which nothing can be undone: count(5) is its sixth number. */
     private static String undoneGone(String view) {
         String[] words = view.split(" ", 7);
@@ -330,6 +358,7 @@ public final class TermsFourTest {
         chaff();
         imageNumbers();
         imagesKeep();
+        imagesKeepNumbers();
         imagesDoNotKeep();
         Check.finish("TermsFourTest");
     }
