@@ -179,6 +179,35 @@ public final class TermsThreePaperTest {
         Check.due("by numbers: 0 first, 1 where it WORKS still", z.plan(0) * 10 + z.plan(1), 21);
     }
 
+    /** "(all of them at first, wherever they are now; TIRED as now)", and of HANDS "all others left at home" */
+    private static void asNow() {
+        SunriseRoof x = new SunriseRoof();
+        x.part(9, 0, 0, 0);
+        x.part(3, 0, 0, 0);
+        x.builder(1, 1);
+        x.builder(1, 1);
+        x.send(0, 1);
+        x.send(1, 1);
+        Check.due("both go to 0 first", x.plan(0) * 100 + x.plan(1), 507);
+        Check.due("and stay where they are now", x.at(0, 3) * 10 + x.at(1, 3), 11);
+        Check.rule(x, "works 3 if with=0;works 0 if with>0;tires 0");
+        Check.due("0 to 0; 1 WORKS where it is alone", x.plan(0) * 10 + x.plan(1), 31);
+        Check.due("who is left at home is not with anybody", x.hands(0) * 10 + x.hands(1), 11);
+        x.rest(0);
+        x.rest(1);
+        Check.rule(x, "works 0 if tired>1;works 1 if tired<2;tires 0");
+        Check.due("not TIRED", x.plan(0) * 100 + x.plan(1), 507);
+        Check.rule(x, "works 0;tires 4");
+        x.send(0, 0);
+        x.send(1, 0);
+        x.tick();
+        x.force(1);
+        Check.due("TIRED as now: they rest till they WORK again, two ticks later", x.plan(0), 7);
+        Check.due("on paper alone", x.at(0, 2) * 10 + x.at(0, 3), 40);
+        Check.due("and are seen in none of these", x.unseen(2), ALL);
+        Check.due("but in the third", x.unseen(3), 810_000_000_000L);
+    }
+
     /** "HANDS: the fewest BUILDERS .. by whom the PLAN has all standing in NIGHT ticks; the lowest as bits" */
     private static void hands() {
         SunriseRoof x = new SunriseRoof();
@@ -446,6 +475,7 @@ public final class TermsThreePaperTest {
         planLimit();
         planHour();
         planSends();
+        asNow();
         hands();
         lowestAsBits();
         taught();
