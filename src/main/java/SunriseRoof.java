@@ -1441,7 +1441,9 @@ public final class SunriseRoof {
             if (rows[from] != NOT_RUN) {
                 return rows[from];
             }
-            Arrays.fill(rows, from, from + ROW, NONE);
+            for (int i = 0; i < ROW; i++) {
+                rows[from + i] = NONE;
+            }
             begin();
             for (int t = 0; t <= limit; t++) {
                 if (noteStanding(t, rows, from)) {

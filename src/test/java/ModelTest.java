@@ -230,7 +230,7 @@ public final class ModelTest {
     }
 
     private void edgeStep() {
-        int parts = (int) roof.count(0);
+        int parts = roof.count(0);
         switch (random.nextInt(14)) {
             case 0: call("part", edge(1, 99), random.nextBoolean() ? edge(0, (1 << parts) - 1) : 0, edge(0, 3), edge(0, 9)); break;
             case 1: call("builder", edge(1, 15), edge(1, 9)); break;
@@ -244,15 +244,15 @@ public final class ModelTest {
             case 9: call("unseen", edge(0, 99)); break;
             case 10: call("image", edge(0, 1)); break;
             case 11: call("back", edge(0, 1)); break;
-            case 12: call("end", edge(0, (int) roof.count(6))); break;
+            case 12: call("end", edge(0, roof.count(6))); break;
             default: call("asks", edge(0, 5), edge(0, 9), edge(0, 3));
         }
     }
 
     private void step() {
         if (atEdges && random.nextInt(3) == 0) edgeStep();
-        int parts = (int) roof.count(0);
-        int builders = (int) roof.count(2);
+        int parts = roof.count(0);
+        int builders = roof.count(2);
         switch (random.nextInt(24)) {
             case 0: if (parts < partsMeant || random.nextInt(20) == 0) call("part", 1 + odd(14), random.nextInt(1 << parts) & random.nextInt(1 << parts), odd(4), odd(10)); break;
             case 1: if (builders < buildersMeant || random.nextInt(20) == 0) call("builder", 1 + odd(15), 1 + odd(5)); break;
